@@ -31,7 +31,7 @@ public final class ResidualTrees {
     private final Whole[] residuals = wholes(MOST_ROWS);
     private final Grower grower = new Grower(table, plan, residuals);
     /** Trees are made once and used again; only the first treeCount of them stand. */
-    private final ArrayList<Tree> trees = new ArrayList<>();
+    private final ArrayList<Tree> forest = new ArrayList<>();
     private int treeCount;
     private final Out out = new Out();
     private final int[] sorted = new int[MOST_ROWS];
@@ -142,7 +142,7 @@ public final class ResidualTrees {
 
     public int node(int tree, int node, int what) throws IllegalArgumentException {
         demand(hasNode(tree, node));
-        Node told = trees.get(tree).at(node);
+        Node told = forest.get(tree).at(node);
         switch (what) {
             case 0: return told.column;
             case 1: return told.mark;
@@ -169,21 +169,21 @@ public final class ResidualTrees {
 
     public int nodes(int tree) throws IllegalArgumentException {
         demand(isWithin(tree, 0, treeCount - 1));
-        return trees.get(tree).nodeCount;
+        return forest.get(tree).nodeCount;
     }
 
     public int uses(int column) throws IllegalArgumentException {
         demand(table.hasColumn(column));
         int used = 0;
         for (int i = 0; i < treeCount; i++) {
-            used += trees.get(i).splitsOf(column);
+            used += forest.get(i).splitsOf(column);
         }
         return used;
     }
 
     public int tell(int tree, int node) throws IllegalArgumentException {
         demand(hasNode(tree, node));
-        Tree told = trees.get(tree);
+        Tree told = forest.get(tree);
         Node at = told.at(node);
         setToScales(out.lower, tree);
         if (at.column == NONE) {
@@ -234,7 +234,7 @@ public final class ResidualTrees {
         sumSquares(asked);
         fewest.set(squares);
         for (int i = 0; i < treeCount; i++) {
-            Tree tree = trees.get(i);
+            Tree tree = forest.get(i);
             for (int row = 0; row < table.rows; row++) {
                 leaveBehind(tree, row, residuals[row]);
             }
@@ -286,18 +286,18 @@ public final class ResidualTrees {
     }
 
     private static boolean isKind(int value) {
-        return isWithin(value, 0, KINDS - 1);
+        return value >= 0 && value < KINDS;
     }
 
     private boolean hasNode(int tree, int node) {
-        return isWithin(tree, 0, treeCount - 1) && isWithin(node, 0, trees.get(tree).nodeCount - 1);
+        return isWithin(tree, 0, treeCount - 1) && isWithin(node, 0, forest.get(tree).nodeCount - 1);
     }
 
     private Tree freshTree() {
-        if (treeCount == trees.size()) {
-            trees.add(new Tree());
+        if (treeCount == forest.size()) {
+            forest.add(new Tree());
         }
-        Tree tree = trees.get(treeCount);
+        Tree tree = forest.get(treeCount);
         tree.nodeCount = 0;
         return tree;
     }
@@ -306,14 +306,14 @@ public final class ResidualTrees {
     private void leave(int row, int firstTrees, Whole left) {
         left.set(table.targets[row]);
         for (int i = 0; i < firstTrees; i++) {
-            leaveBehind(trees.get(i), row, left);
+            leaveBehind(forest.get(i), row, left);
         }
     }
 
     private void leaveBehind(Tree tree, int row, Whole left) {
         left.times(tree.scale);
         tree.setToValue(leaf, tree.leafOf(table.columns, row));
-        left.add(leaf, true);
+        left.plus(leaf, true);
     }
 
     private void leaveAll(int firstTrees) {
@@ -325,7 +325,7 @@ public final class ResidualTrees {
     private void setToScales(Whole product, int firstTrees) {
         product.set(1);
         for (int i = 0; i < firstTrees; i++) {
-            product.times(trees.get(i).scale);
+            product.times(forest.get(i).scale);
         }
     }
 
@@ -339,7 +339,7 @@ public final class ResidualTrees {
         out.upper[0].times(under);
         square.setProduct(split.sum, split.sum);
         square.times(underLeft * underRight);
-        out.upper[0].add(square, true);
+        out.upper[0].plus(square, true);
         common.set(out.lower);
         out.lower.setProduct(common, common);
         out.lower.times(underLeft * underRight * under);
@@ -351,7 +351,7 @@ public final class ResidualTrees {
         sides.times(underRight);
         part.setProduct(right, right);
         part.times(underLeft);
-        sides.add(part, false);
+        sides.plus(part, false);
     }
 
     private void sumSquares(long rows) {
@@ -359,7 +359,7 @@ public final class ResidualTrees {
         for (int row = 0; row < table.rows; row++) {
             if ((rows >> row & 1) == 1) {
                 square.setProduct(residuals[row], residuals[row]);
-                squares.add(square, false);
+                squares.plus(square, false);
             }
         }
     }
@@ -493,7 +493,7 @@ public final class ResidualTrees {
         }
 
         /** The other number is added, or, if it is turned, taken away. */
-        void add(Whole other, boolean turned) {
+        void plus(Whole other, boolean turned) {
             boolean grows = (isBelow == other.isBelow) != turned;
             int carry = 0;
             int i = 0;
@@ -821,7 +821,7 @@ public final class ResidualTrees {
 
         void takeIn(long more, Whole theirSum) {
             rows |= more;
-            sum.add(theirSum, false);
+            sum.plus(theirSum, false);
         }
 
         void become(Group other) {
@@ -889,7 +889,7 @@ public final class ResidualTrees {
             sum.set(0);
             for (int row = 0; row < table.rows; row++) {
                 if ((rows >> row & 1) == 1) {
-                    sum.add(residuals[row], false);
+                    sum.plus(residuals[row], false);
                 }
             }
         }
@@ -989,7 +989,7 @@ public final class ResidualTrees {
             int underLeft = leftCount + plan.weight;
             int underRight = rightCount + plan.weight;
             otherSide.set(node.sum);
-            otherSide.add(left.sum, true);
+            otherSide.plus(left.sum, true);
             setToSides(tried.worth, left.sum, underLeft, otherSide, underRight, scaled);
             tried.worthUnder = underLeft * underRight;
             if (best.column == NONE || isBetter()) {

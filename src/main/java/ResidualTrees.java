@@ -18,11 +18,13 @@ public final class ResidualTrees {
     private static final int[] PRIMES = {2, 3, 5, 7, 11, 13, 17, 19, 23, 29, 31, 37, 41, 43, 47, 53, 59, 61, 67};
 
     /*
-     * Why these many words of nine digits are enough: leaves with at most 48 rows in all have at most
+     * Why so many words of nine digits are enough: leaves with at most 48 rows in all have at most
      * 111,767,455,800 as the least common multiple of their rows and weight, so a round makes the
-     * denominator at most 16 times that greater, and behind 16 rounds it has at most 197 digits. A leaf's
-     * value is no greater than the greatest residual, so a round at most doubles residuals: they stay below
-     * 1,000 * 2^16, and their upper parts have at most 204 digits. The sum of 48 squares then has at most 410.
+     * denominator at most 16 times that greater; behind 16 rounds it has at most 652 bits, or 197 digits
+     * (so COMMON can't come to its limit of 1,500 bits, which is looked at all the same). A leaf's value is
+     * no greater than the greatest residual of its round, so residuals by k trees stay within 1,000 * 2^k,
+     * whatever becomes of the rows; their upper parts have at most 204 digits, and four more while a leaf's
+     * value is worked out. The sum of 48 squares then has at most 410.
      */
     private static final int WORDS = 24, SQUARE_WORDS = 48;
 

@@ -448,6 +448,15 @@ public final class TrainTest {
         x.train(1);
         isSplit("the only node", x, 0, 0, NONE, 0, 0, NONE, NONE, 1, 0, 0);
         Check.badArgument("node 1 is gone", () -> x.node(0, 1, 0));
+        x.drop(0);
+        x.kinds(0, true);
+        x.sample(-1, 1);
+        x.train(1);
+        Check.same("a split of kinds", x.node(0, 0, 7), 1);
+        x.drop(0);
+        x.sample(1, 1);
+        x.train(1);
+        isSplit("a leaf in its place", x, 0, 0, NONE, 0, 0, NONE, NONE, 1, 0, 0);
     }
 
     private static void nodesAndUses() {

@@ -15,6 +15,8 @@ public final class WrittenTest {
         byteAt();
         onlyWritingChangesTheOut();
         longNumbers();
+        sumsWithNineZeros();
+        residualWithNineZeros();
         Check.end();
     }
 
@@ -213,5 +215,45 @@ public final class WrittenTest {
         Check.same("count(3)", x.count(3), lower.bitLength());
         x.target(0, 0);
         Check.written("residual of a target of 0", x, x.residual(0, 16), upper.subtract(lower) + "/" + lower);
+    }
+
+    /** Each of ten rows has (10 / 11) ^ 4 left, so that the tenth square fills up nine digits. */
+    private static void sumsWithNineZeros() {
+        ResidualTrees x = new ResidualTrees();
+        for (int i = 0; i < 10; i++) {
+            x.add(1);
+        }
+        x.rate(1, 11);
+        x.train(4);
+        Check.written("nine rows", x, x.error(511, 4), "900000000/214358881");
+        Check.written("ten rows", x, x.error(1023, 4), "1000000000/214358881");
+    }
+
+    /** A row has nothing left by nine trees; then the tenth, by another column, takes away a 1 with nine zeros. */
+    private static void residualWithNineZeros() {
+        ResidualTrees x = new ResidualTrees();
+        x.begin(2);
+        int[] targets = {1, 0, -1};
+        for (int i = 0; i < 3; i++) {
+            x.add(targets[i]);
+            x.put(i, 0, i);
+            x.put(i, 1, i);
+        }
+        x.kinds(0, true);
+        x.kinds(1, true);
+        x.add(0);
+        x.put(3, 0, 1);
+        x.put(3, 1, 0);
+        x.rate(1, 11);
+        x.sample(7, 1);
+        x.train(9);
+        x.sample(7, 2);
+        x.train(1);
+        Check.written("by nine", x, x.residual(3, 9), "0");
+        Check.written("by ten", x, x.residual(3, 10), "-1000000000/25937424601");
+        x.ask(0, 1);
+        x.ask(1, 0);
+        Check.written("the prediction", x, x.predict(10), "1000000000/25937424601");
+        Check.written("row 0 by ten", x, x.residual(0, 10), "10000000000/25937424601");
     }
 }

@@ -188,6 +188,13 @@ public final class TableTest {
         Check.badArgument("its edges are gone, too", () -> x.edge(0, 0));
         x.ask(1, 500);
         Check.same("the question is no row", x.kinds(1, true) ? 1 : 0, 0);
+        x.begin(1);
+        Check.same("rows that are gone have no values", x.kinds(0, true) ? 1 : 0, 0);
+        x.ask(0, 500);
+        for (int row = 0; row < 48; row++) {
+            x.add(0);
+        }
+        Check.same("nor is it one behind 48 rows", x.kinds(0, true) ? 1 : 0, 1);
     }
 
     private static ResidualTrees withValues(int... values) {

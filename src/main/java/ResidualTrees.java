@@ -450,8 +450,9 @@ public final class ResidualTrees {
             return length == 0 ? 0 : isBelow ? -1 : 1;
         }
 
+        /** The highest word is never 0; most is within the words. */
         private void trim(int most) {
-            length = Math.min(most, words.length);
+            length = most;
             while (length > 0 && words[length - 1] == 0) {
                 length--;
             }

@@ -1,5 +1,8 @@
 /** What all tests of the project share: they count wrong answers and end with 1 if there was one. */
 final class Check {
+    /** Longer than any number that is ever written, so that reading the out ends in any case. */
+    private static final int MOST_BYTES = 2000;
+
     private static int wrong = 0;
 
     private Check() {
@@ -16,11 +19,13 @@ final class Check {
         System.out.println(text);
     }
 
-    /** The out is read to its end, and one byte further. */
+    /** The out is read to its end, and one byte further: each byte is a call of the 512 that an object has. */
     static String out(ResidualTrees trees) {
         StringBuilder text = new StringBuilder();
-        for (int i = 0; trees.byteAt(i) != ResidualTrees.NONE; i++) {
-            text.append((char) trees.byteAt(i));
+        int next = trees.byteAt(0);
+        while (next != ResidualTrees.NONE && text.length() < MOST_BYTES) {
+            text.append((char) next);
+            next = trees.byteAt(text.length());
         }
         return text.toString();
     }
@@ -42,7 +47,7 @@ final class Check {
         refused(what, IllegalStateException.class, call);
     }
 
-    private static void refused(String what, Class<? extends RuntimeException> due, Runnable call) {
+    static void refused(String what, Class<? extends RuntimeException> due, Runnable call) {
         try {
             call.run();
             say(what + " threw nothing, due is " + due.getSimpleName());

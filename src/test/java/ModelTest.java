@@ -1,9 +1,12 @@
+import java.util.Arrays;
 import java.util.Random;
 
 /** All promises: runs of calls by chance, always the same ones, each answered as the model answers it. */
 public final class ModelTest {
     private static final int MISSING = ResidualTrees.MISSING;
     private static final int MOST_CALLS = 512;
+    private static final int[] WILD = {MISSING, MISSING + 1, -1000001, -1001, -2, -1, 0, 5, 6, 7, 8, 11, 12, 13, 16, 17, 25,
+        31, 32, 47, 48, 49, 63, 64, 1001, 1000001, Integer.MAX_VALUE - 1, Integer.MAX_VALUE};
 
     private interface Call<T> {
         long on(T object);
@@ -37,7 +40,10 @@ public final class ModelTest {
     }
 
     private void wholeRun() {
-        both("begin(" + columns + ")", x -> { x.begin(columns); return 0; }, m -> { m.begin(columns); return 0; });
+        if (i(3) == 0) {
+            formerTable();
+        }
+        begin(columns);
         int most = random.nextInt(4) == 0 ? 48 : 1 + random.nextInt(30);
         for (int i = 0; i < most && calls < 340; i++) {
             addWhole();
@@ -48,6 +54,31 @@ public final class ModelTest {
         while (calls < MOST_CALLS) {
             anyCall();
         }
+    }
+
+    /** Calls on the one column of a new object, so that begin() has something to forget. */
+    private void formerTable() {
+        for (int i = 0; i < 8; i++) {
+            add(target());
+            put(rows - 1, 0, value(0));
+        }
+        for (int i = 0; i < 30; i++) {
+            anyCall();
+        }
+    }
+
+    private void begin(int width) {
+        both("begin(" + width + ")",
+                x -> {
+                    x.begin(width);
+                    return 0;
+                },
+                m -> {
+                    m.begin(width);
+                    Arrays.fill(ofKinds, false);
+                    return 0;
+                });
+        rows = model.count(1);
     }
 
     private void addWhole() {
@@ -66,6 +97,9 @@ public final class ModelTest {
 
     private void anyCall() {
         int which = i(100);
+        if (chance(100)) {
+            begin(7 * i(2));
+        }
         if (which < 4) {
             add(target());
         } else if (which < 12) {
@@ -112,14 +146,14 @@ public final class ModelTest {
 
     private void cut(int column) {
         boolean byCount = i(2) == 0;
-        int n = chance(20) ? 1 + 12 * i(2) : 2 + i(11);
+        int n = chance(40) ? wild() : chance(20) ? 1 + 12 * i(2) : 2 + i(11);
         both("cut(" + column + ", " + byCount + ", " + n + ")", x -> x.cut(column, byCount, n),
                 m -> m.cut(column, byCount, n));
     }
 
     private void edges() {
         int column = column();
-        int which = i(13) - 1;
+        int which = chance(30) ? wild() : i(13) - 1;
         int value = value(column);
         if (i(2) == 0) {
             both("edge(" + column + ", " + which + ")", x -> x.edge(column, which), m -> m.edge(column, which));
@@ -131,15 +165,15 @@ public final class ModelTest {
     private void plans() {
         int which = i(3);
         if (which == 0) {
-            int depth = chance(20) ? 5 * i(2) : 1 + i(4);
-            int least = chance(20) ? 25 * i(2) : i(2) == 0 ? 1 : 1 + i(i(2) == 0 ? 24 : 4);
-            int weight = chance(20) ? -1 + 22 * i(2) : i(2) == 0 ? 0 : i(21);
+            int depth = chance(60) ? wild() : chance(20) ? 5 * i(2) : 1 + i(4);
+            int least = chance(60) ? wild() : chance(20) ? 25 * i(2) : i(2) == 0 ? 1 : 1 + i(i(2) == 0 ? 24 : 4);
+            int weight = chance(60) ? wild() : chance(20) ? -1 + 22 * i(2) : i(2) == 0 ? 0 : i(21);
             both("shape(" + depth + ", " + least + ", " + weight + ")",
                     x -> { x.shape(depth, least, weight); return 0; },
                     m -> { m.shape(depth, least, weight); return 0; });
         } else if (which == 1) {
-            int q = chance(20) ? 17 * i(2) : 1 + i(16);
-            int p = chance(20) ? (q + 1) * i(2) : 1 + i(Math.max(q, 1));
+            int q = chance(40) ? wild() : chance(20) ? 17 * i(2) : 1 + i(16);
+            int p = chance(40) ? wild() : chance(20) ? (q + 1) * i(2) : 1 + i(Math.max(q, 1));
             both("rate(" + p + ", " + q + ")", x -> { x.rate(p, q); return 0; }, m -> { m.rate(p, q); return 0; });
         } else {
             long bits = bits();
@@ -151,7 +185,7 @@ public final class ModelTest {
     private void training() {
         int which = i(10);
         if (which < 7) {
-            int rounds = chance(20) ? 17 * i(2) : 1 + i(i(4) == 0 ? 16 : 3);
+            int rounds = chance(40) ? wild() : chance(20) ? 17 * i(2) : 1 + i(i(4) == 0 ? 16 : 3);
             both("train(" + rounds + ")", x -> x.train(rounds), m -> m.train(rounds));
         } else {
             int stay = tree() + 1;
@@ -162,9 +196,9 @@ public final class ModelTest {
     private void shapes() {
         int tree = tree();
         int column = column();
-        int node = i(2) == 0 ? i(4) : i(33) - 1;
-        int what = i(10) - 1;
-        int number = i(7) - 1;
+        int node = chance(30) ? wild() : i(2) == 0 ? i(4) : i(33) - 1;
+        int what = chance(30) ? wild() : i(10) - 1;
+        int number = chance(30) ? wild() : i(7) - 1;
         switch (i(10)) {
             case 0 -> both("nodes(" + tree + ")", x -> x.nodes(tree), m -> m.nodes(tree));
             case 1 -> both("uses(" + column + ")", x -> x.uses(column), m -> m.uses(column));
@@ -178,7 +212,7 @@ public final class ModelTest {
         int tree = tree();
         int first = i(3) == 0 ? model.count(2) : tree + 1;
         int row = row();
-        int node = i(i(2) == 0 ? 3 : 32);
+        int node = chance(30) ? wild() : i(i(2) == 0 ? 3 : 32);
         int column = column();
         int asked = chance(20) ? 1000001 : value(column);
         long bits = bits();
@@ -193,7 +227,7 @@ public final class ModelTest {
                     m -> m.ask(column, asked));
         }
         for (int i = 0; i < 3; i++) {
-            int at = i(model.count(4) + 3) - 1;
+            int at = chance(30) ? wild() : i(model.count(4) + 3) - 1;
             both("byteAt(" + at + ")", x -> x.byteAt(at), m -> m.byteAt(at));
         }
     }
@@ -225,27 +259,35 @@ public final class ModelTest {
         return i(of) == 0;
     }
 
+    /** Numbers that are far outside of every range, or just outside of some. */
+    private int wild() {
+        return WILD[i(WILD.length)];
+    }
+
     private int row() {
-        return chance(15) ? rows * i(2) - 1 + i(2) : i(Math.max(rows, 1));
+        return chance(60) ? wild() : chance(15) ? rows * i(2) - 1 + i(2) : i(Math.max(rows, 1));
     }
 
     private int column() {
-        return chance(30) ? columns * i(2) : i(columns);
+        return chance(60) ? wild() : chance(30) ? columns * i(2) : i(columns);
     }
 
     private int tree() {
-        return i(model.count(2) + 2) - 1;
+        return chance(60) ? wild() : i(model.count(2) + 2) - 1;
     }
 
     private int target() {
-        return i(3) == 0 ? i(11) - 5 : chance(40) ? 1001 * (1 - 2 * i(2)) : i(2001) - 1000;
+        return chance(80) ? wild() : i(3) == 0 ? i(11) - 5 : chance(40) ? 1001 * (1 - 2 * i(2)) : i(2001) - 1000;
     }
 
     private int value(int column) {
         if (chance(20)) {
             return MISSING;
         }
-        if (ofKinds[column]) {
+        if (chance(60)) {
+            return wild();
+        }
+        if (column >= 0 && column < columns && ofKinds[column]) {
             return chance(40) ? i(2) * 13 - 1 : i(spread < 12 ? spread + 2 : 12);
         }
         return chance(40) ? 1000001 : i(2) == 0 ? i(spread + 1) : i(2 * spread + 1) - spread;

@@ -2,74 +2,62 @@ import com.sun.management.ThreadMXBean;
 import java.lang.management.ManagementFactory;
 import java.util.Random;
 
-/** All calls of a run share one room: an object stays small, and calls use again what was made before. */
+/**
+ * All calls of a run share one room of some 600,000 objects and arrays, and 7.3 million fields and elements. Each of
+ * these takes a byte at least, and an object 16 of them, so a run that takes fewer bytes than that is within the room.
+ */
 public final class RoomTest {
-    /** Far below the 7.3 million elements of four bytes that a whole run may make. */
-    private static final long MOST_OF_NEW = 40000, MOST_OF_TREES = 200000, MOST_OF_AGAIN = 20000;
+    private static final long MOST_BYTES = 7300000;
+    private static final int MOST_CALLS = 512;
 
     private final ThreadMXBean meter = (ThreadMXBean) ManagementFactory.getThreadMXBean();
 
     public static void main(String[] args) {
         RoomTest test = new RoomTest();
         // The first time classes are loaded, too, which is no room of the object's.
-        test.measure(false);
-        test.measure(true);
+        test.measure();
+        long bytes = test.measure();
+        if (bytes > MOST_BYTES) {
+            Check.say("a run took " + bytes + " bytes, at most " + MOST_BYTES + " are due");
+        }
         Check.end();
     }
 
-    private void measure(boolean counts) {
-        long start = meter.getCurrentThreadAllocatedBytes();
+    /** How many bytes a run takes that is made of the dearest calls. */
+    private long measure() {
+        long before = meter.getCurrentThreadAllocatedBytes();
         ResidualTrees x = new ResidualTrees();
-        long made = meter.getCurrentThreadAllocatedBytes();
-        fill(x, new Random(7));
-        long filled = meter.getCurrentThreadAllocatedBytes();
-        x.train(16);
-        useAll(x);
-        long trained = meter.getCurrentThreadAllocatedBytes();
-        for (int i = 0; i < 10; i++) {
-            x.drop(i);
-            x.train(16 - i);
-            useAll(x);
+        int calls = fill(x);
+        for (int i = 0; calls + 9 <= MOST_CALLS; i++) {
+            x.drop(i % 8);
+            x.train(16 - i % 8);
+            x.error(-1, 16);
+            x.best(-1);
+            x.count(3);
+            x.tell(15, 0);
+            x.residual(47, 16);
+            x.predict(16);
+            x.uses(0);
+            calls += 9;
         }
-        long again = meter.getCurrentThreadAllocatedBytes();
-        if (counts) {
-            isBelow("a new object", made - start, MOST_OF_NEW);
-            isBelow("sixteen trees", trained - filled, MOST_OF_TREES);
-            isBelow("the same calls again", again - trained, MOST_OF_AGAIN);
-        }
+        return meter.getCurrentThreadAllocatedBytes() - before;
     }
 
-    private static void fill(ResidualTrees x, Random random) {
-        x.begin(6);
+    /** A full table of four columns: how many calls it took. */
+    private static int fill(ResidualTrees x) {
+        Random random = new Random(7);
+        x.begin(4);
         for (int row = 0; row < 48; row++) {
             x.add(random.nextInt(2001) - 1000);
-            for (int c = 0; c < 6; c++) {
+            for (int c = 0; c < 4; c++) {
                 x.put(row, c, random.nextInt(12));
             }
         }
-        for (int c = 0; c < 6; c++) {
-            if (c < 3) {
-                x.kinds(c, true);
-            } else {
-                x.cut(c, true, 12);
-            }
-        }
+        x.kinds(0, true);
+        x.kinds(1, true);
+        x.cut(2, true, 12);
+        x.cut(3, false, 12);
         x.shape(4, 1, 3);
-    }
-
-    private static void useAll(ResidualTrees x) {
-        x.error(-1, 16);
-        x.best(-1);
-        x.count(3);
-        x.tell(15, 0);
-        x.residual(47, 16);
-        x.predict(16);
-        x.uses(0);
-    }
-
-    private static void isBelow(String what, long bytes, long most) {
-        if (bytes > most) {
-            Check.say(what + " took " + bytes + " bytes, at most " + most + " are due");
-        }
+        return 1 + 48 * 5 + 5;
     }
 }

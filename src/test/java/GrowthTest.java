@@ -30,8 +30,11 @@ public final class GrowthTest {
         oneKindIsNotSplit();
         kindsOutOfTheNodeGoRight();
         kindsThatAreAlikeByNumber();
+        kindsBelowZero();
+        kindsByRowsAndWeight();
         missingElsewhereIsNoMatter();
         allMissingIsNotSplit();
+        oneMissingRow();
         greaterGainOfALaterColumn();
         alikeGainsByColumn();
         alikeGainsByEdge();
@@ -44,6 +47,8 @@ public final class GrowthTest {
         depthsOneToFour();
         leafOfAll();
         roundsWithNothingLeft();
+        roundsGoByTheRowsOfNow();
+        treesStayAsTheyWere();
         Check.end();
     }
 
@@ -493,6 +498,35 @@ public final class GrowthTest {
         isSplit("5 and the two lowest", x, 0, 1 << 5 | 1 << 3 | 1 << 8, 1, 4);
     }
 
+    /** "rising": -9 comes before -1, and both before 0 and 5. */
+    private static void kindsBelowZero() {
+        ResidualTrees x = table(new int[] {-1, 5, -9, 0}, 0, 1, 2, 3);
+        x.kinds(0, true);
+        x.shape(1, 1, 0);
+        x.train(1);
+        // -9 | -1 0 5 has 81 + 16 / 3, -9 -1 | 0 5 has 50 + 25 / 2.
+        isSplit("-9 | -1 0 5", x, 0, 1 << 2, 1, 1);
+        x.drop(0);
+        x.shape(1, 2, 0);
+        x.train(1);
+        isSplit("-9 -1 | 0 5", x, 0, 1 << 2 | 1 << 0, 1, 2);
+    }
+
+    /** "their sums over (how many, and w)": with weight 1 kind 0 has 10 / 3, kind 1 has 12 / 5, kind 2 comes first. */
+    private static void kindsByRowsAndWeight() {
+        ResidualTrees x = table(new int[] {-1000, 5, 5, 3, 3, 3, 3}, 2, 0, 0, 1, 1, 1, 1);
+        x.kinds(0, true);
+        x.shape(1, 2, 1);
+        x.train(1);
+        isSplit("2 1 | 0", x, 0, 1 << 2 | 1 << 1, 1, 5);
+        x.drop(0);
+        x.target(1, 3);
+        x.target(2, 3);
+        x.train(1);
+        // Kind 0 has 6 / 3 now, which is below 12 / 5, though its rows are as those of kind 1.
+        isSplit("2 0 | 1", x, 0, 1 << 2 | 1 << 0, 1, 3);
+    }
+
     /** "If a row of the node is MISSING there ..; otherwise to the left." */
     private static void missingElsewhereIsNoMatter() {
         ResidualTrees x = table(new int[] {0, 10, 10}, 1, 2, MISSING);
@@ -533,6 +567,24 @@ public final class GrowthTest {
         x.kinds(0, true);
         x.train(1);
         Check.same("kinds that are all missing", x.nodes(1), 1);
+    }
+
+    /** "missing ones go to the left, then the same with them to the right": be it the first row or the last. */
+    private static void oneMissingRow() {
+        for (int row = 0; row < 48; row += 47) {
+            ResidualTrees x = new ResidualTrees();
+            addRows(x, 24, 10, 1);
+            addRows(x, 24, 0, 0);
+            x.target(row, 10);
+            x.put(row, 0, MISSING);
+            x.cut(0, false, 2);
+            x.train(1);
+            isSplit("to the right with row " + row, x, 0, 1, 0, row == 0 ? 24 : 23);
+            x.drop(0);
+            x.target(row, 0);
+            x.train(1);
+            isSplit("to the left with row " + row, x, 0, 1, 1, row == 0 ? 25 : 24);
+        }
     }
 
     /** Two columns for rows with -5 -5 5 5: one of them parts 1 | 2 | 34, the other one 12 | 34. */
@@ -749,5 +801,49 @@ public final class GrowthTest {
         }
         Check.same("the fewest trees are the best", x.best(-1), 1);
         Check.same("uses of the first tree alone", x.uses(0), 1);
+    }
+
+    /** "A round has all residuals by the trees before it": of rows as they are now, also of those that came later. */
+    private static void roundsGoByTheRowsOfNow() {
+        ResidualTrees x = table(new int[] {0, 8}, 1, 2);
+        x.cut(0, true, 2);
+        x.rate(1, 1);
+        x.train(1);
+        x.target(0, 6);
+        x.put(1, 0, 1);
+        addRows(x, 1, 4, 2);
+        // By the tree 0 is on the left, 8 on the right: 6, 8 and -4 are left.
+        x.shape(1, 1, 0);
+        x.train(1);
+        Check.same("rows of the second tree", x.node(1, 0, 5), 3);
+        Check.written("its left value", x, x.tell(1, 1), "7");
+        Check.written("its right value", x, x.tell(1, 2), "-4");
+        Check.written("row 0", x, x.residual(0, 2), "-1");
+        Check.written("row 1", x, x.residual(1, 2), "1");
+        Check.written("row 2", x, x.residual(2, 2), "0");
+    }
+
+    /** Rows that a node had, values and gains are those of its round, whatever comes behind it. */
+    private static void treesStayAsTheyWere() {
+        ResidualTrees x = table(new int[] {0, 8}, 1, 2);
+        x.cut(0, true, 2);
+        x.train(1);
+        x.target(0, 1000);
+        x.put(0, 0, MISSING);
+        x.put(1, 0, MISSING);
+        addRows(x, 10, -1000, 7);
+        x.cut(0, true, 2);
+        x.kinds(0, true);
+        x.sample(0, 0);
+        x.shape(4, 24, 20);
+        x.rate(1, 16);
+        Check.same("nodes", x.nodes(0), 3);
+        isSplit("the root", x, 0, 2, 1, 1);
+        Check.same("its rows", x.node(0, 0, 5), 2);
+        Check.same("its column was one of numbers", x.node(0, 0, 7), 0);
+        Check.same("uses", x.uses(0), 1);
+        Check.written("its gain: 64 - 64 / 2", x, x.tell(0, 0), "32");
+        Check.written("its left value", x, x.tell(0, 1), "0");
+        Check.written("its right value", x, x.tell(0, 2), "4");
     }
 }

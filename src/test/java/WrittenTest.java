@@ -147,6 +147,8 @@ public final class WrittenTest {
         Check.same("without trees", x.best(3), 0);
         x.train(3);
         Check.same("each tree is better", x.best(-1), 3);
+        x.sample(0, 0);
+        Check.same("the sample does not matter", x.best(-1), 3);
         Check.same("no row", x.best(0), 0);
         Check.same("rows that are not there", x.best(-4), 0);
         x.target(0, -1);
@@ -161,6 +163,21 @@ public final class WrittenTest {
         x.residual(1, 0);
         x.best(1);
         Check.written("best writes nothing", x, 1, "8");
+        bestOfThirds();
+    }
+
+    /** The sums have other lower parts by each number of trees: 1, 4 / 9, 16 / 81, .. */
+    private static void bestOfThirds() {
+        ResidualTrees x = pair(1, -1);
+        x.rate(1, 3);
+        for (int trees = 1; trees <= 16; trees++) {
+            x.train(1);
+            Check.same("each tree is better", x.best(3), trees);
+            Check.same("for one row, too", x.best(2), trees);
+        }
+        x.target(1, 0);
+        // What is left of row 1 is 0, then 1 / 3, 5 / 9, 19 / 27, ..
+        Check.same("each tree is worse", x.best(2), 0);
     }
 
     private static void byteAt() {

@@ -1,12 +1,8 @@
-import java.io.File;
 import java.io.IOException;
 import java.lang.reflect.InvocationTargetException;
 import java.lang.reflect.Method;
-import java.net.URL;
-import java.net.URLClassLoader;
 import java.nio.file.Files;
 import java.nio.file.Path;
-import javax.tools.ToolProvider;
 
 /**
  * "If it has more than 1,500 bits behind a round, the tree of that round is taken away again, and training ends."
@@ -31,30 +27,11 @@ public final class CommonTest {
             Check.say("the limit of 1,500 bits does not stand in " + source);
             Check.end();
         }
-        Path work = Files.createTempDirectory("common");
-        Class<?> compiled = compiled(work, lowered);
+        // The parent must not know the program as it is.
+        Class<?> compiled = Compiled.from("ResidualTrees", lowered, ClassLoader.getPlatformClassLoader());
         new CommonTest(compiled).treeIsTakenAway();
         new CommonTest(compiled).trainingEnds();
         Check.end();
-    }
-
-    private static Class<?> compiled(Path work, String program) throws IOException, ReflectiveOperationException {
-        Path file = work.resolve("ResidualTrees.java");
-        Files.writeString(file, program);
-        int failed = ToolProvider.getSystemJavaCompiler().run(null, null, null, "-d", work.toString(), file.toString());
-        Check.same("javac of the program with the low limit", failed, 0);
-        deleteOnExit(work.toFile());
-        // The loader has no parent that knows the program as it is.
-        URLClassLoader loader = new URLClassLoader(new URL[] {work.toUri().toURL()}, ClassLoader.getPlatformClassLoader());
-        return loader.loadClass("ResidualTrees");
-    }
-
-    /** What is told first goes last: the directory must be empty by then. */
-    private static void deleteOnExit(File directory) {
-        directory.deleteOnExit();
-        for (File made : directory.listFiles()) {
-            made.deleteOnExit();
-        }
     }
 
     private long call(String name, Object... arguments) {
